@@ -642,6 +642,7 @@ public final class BilletBars {
             int others = most[1] * length[1] + most[2] * length[2];
             // From the most pieces down: of like patterns the first one found has the greatest n 0, then n 1.
             for (int n0 = fitting(0, space); n0 >= 0; n0--) {
+                // With so few of this order, all the others could not make up for it.
                 if (n0 * length[0] + others < goods) {
                     break;
                 }

@@ -327,17 +327,33 @@ public final class PromisesTest {
         due("account(5)", x.account(5), 4000);
     }
 
-    private static void fullOfBars() {
+    /** As many profiles, orders, dies, bars and stock lengths as there may be; 2000 of goods in each bar. */
+    private static BilletBars full() {
         BilletBars x = plain();
+        x.order(0, 2000, 500);
+        for (int profile = 1; profile < 8; profile++) {
+            x.profile(0, 10, 3, 1000);
+        }
+        x.order(7, 2000, 3);
+        x.order(7, 2000, 2);
+        x.order(7, 2000, 1);
         for (int die = 0; die < 12; die++) {
             x.die(0, 50);
+        }
+        for (int n = 0; n < 6; n++) {
+            x.stock(1200 - 200 * n);
         }
         for (int bar = 0; bar < 200; bar++) {
             if (bar % 10 == 0) {
                 rewarm(x, bar / 20);
             }
-            due("press " + bar, x.press(bar / 20, 200), 0);
+            due("press " + bar, x.press(bar / 20, 200), 2000);
         }
+        return x;
+    }
+
+    private static void fullOfBars() {
+        BilletBars x = full();
         due("count(3)", x.count(3), 200);
         due("bar", x.bar(199, 0), 9);
         rewarm(x, 0);
@@ -347,6 +363,43 @@ public final class PromisesTest {
         due("press", x.press(0, 199), BAD);
         due("count(2)", x.count(2), tick);
         due("about", x.about(0, 5), 20);
+        due("wanted", x.wanted(0, 0), 300);
+    }
+
+    private static void fullObject() {
+        BilletBars x = full();
+        due("ready", x.ready(0), NONE);
+        rewarm(x, 11);
+        due("ready", x.ready(0), 11);
+        due("ready", x.ready(7), NONE);
+        due("best", x.best(11, true), 200);
+        due("account(3)", x.account(3), 400000);
+        due("suspect", x.suspect(199), 0);
+        x.sample(199, false);
+        due("suspect", x.suspect(180), 1);
+        due("suspect", x.suspect(179), 0);
+        due("held", x.held(), 40000);
+        x.sheet(0, 1, 200);
+        x.put(0, 1, 199, 1003);
+        due("drift", x.drift(0, 199), 3);
+        due("count(7)", x.count(7), 200);
+        due("batches", x.batches(), 4);
+        x.room(1000000);
+        due("age", x.age(), 200);
+        due("age", x.age(), NOT);
+        due("bar", x.bar(199, 6), 0);
+        long h = chained(8, 12, x.count(2), 200, 0, 1, 0);
+        for (int die = 0; die < 12; die++) {
+            h = 31 * (31 * (31 * h + (die < 10 ? 20 : 0)) + x.about(die, 3)) + x.about(die, 4);
+        }
+        for (int bar = 0; bar < 200; bar++) {
+            h = 31 * (31 * (31 * (31 * h + 2000)));
+        }
+        int[] rest = {0, 0, 0, 400000, 0, 400000, 40000, 300, 3, 2, 1};
+        for (int part : rest) {
+            h = 31 * h + part;
+        }
+        due("digest", x.digest(), h);
     }
 
     private static void bar() {
@@ -453,6 +506,28 @@ public final class PromisesTest {
         due("pattern", x.pattern(-1, 100, 0), BAD);
         due("wanted", x.wanted(0, 1), 4);
         patternsOfLikeOrders();
+        patternsWithKerfs();
+    }
+
+    private static void patternsWithKerfs() {
+        BilletBars x = plain();
+        x.law(4, 20);
+        x.order(0, 1000, 3);
+        x.order(0, 700, 2);
+        x.order(0, 150, 60);
+        // the last piece needs no kerf behind it: 2000 and 150, with two kerfs between
+        dueParts(x, 2190, 2, 0, 1, 2150);
+        dueParts(x, 2189, 2, 0, 0, 2000);
+        dueParts(x, 1720, 1, 1, 0, 1700);
+        dueParts(x, 1719, 1, 0, 4, 1600);
+        dueParts(x, 1890, 1, 1, 1, 1850);
+        dueParts(x, 1889, 1, 0, 5, 1750);
+        dueParts(x, 0, 0, 0, 0, 0);
+        dueParts(x, 149, 0, 0, 0, 0);
+        dueParts(x, 150, 0, 0, 1, 150);
+        BilletBars y = plain();
+        y.order(0, 100, 60);
+        dueParts(y, 0, 0, 0, 0, 0);
     }
 
     private static void patternsOfLikeOrders() {
@@ -785,6 +860,9 @@ public final class PromisesTest {
         x.sheet(0, 0, 200);
         x.put(0, 0, 5, 127);
         due("drift", x.drift(5, 5), -873);
+        // what an earlier sheet had is no weight
+        x.sheet(0, 0, 5);
+        due("drift", x.drift(5, 5), -100001);
         x.lose(0);
         due("drift", x.drift(5, 5), -100001);
         due("drift", new BilletBars().drift(0, 0), -100000);
@@ -1108,6 +1186,7 @@ public final class PromisesTest {
         count();
         promise = 36;
         digest();
+        fullObject();
         refusalsChangeNothing();
     }
 
