@@ -23,6 +23,9 @@ public final class BilletBars {
     private static final int STRETCH = 5;
     private static final int[] LAW_LIMITS = {100, 5000, 5000, 5000, 20, 20};
 
+    private static final int LEAST_INT = -2147483648;
+    private static final int GREATEST_INT = 2147483647;
+
     private static final int NO_DRIFT_BAD = -100000;
     private static final int NO_DRIFT_NOT = -100001;
 
@@ -392,12 +395,12 @@ public final class BilletBars {
 
     public int get(int s, int form, int i) {
         if (!isSheet(s) || !isForm(form)) {
-            return Integer.MIN_VALUE;
+            return LEAST_INT;
         }
         int fault = sheets.faultOf(s, form, i);
         if (fault != 0) {
             sheets.found(fault);
-            return Integer.MIN_VALUE;
+            return LEAST_INT;
         }
         return sheets.items[s * MOST_ITEMS + i];
     }
@@ -870,8 +873,8 @@ public final class BilletBars {
             if (settled) {
                 return;
             }
-            leastLate = Integer.MAX_VALUE;
-            leastEnd = Integer.MAX_VALUE;
+            leastLate = GREATEST_INT;
+            leastEnd = GREATEST_INT;
             fillPlace(0, 0, 0);
             settled = true;
         }

@@ -53,15 +53,19 @@ public final class FaceTest {
             }
         }
         must(open.equals(new TreeSet<>(Arrays.asList(FACE))), "the public methods are the document's: " + open);
-        for (Class<?> inside : BilletBars.class.getDeclaredClasses()) {
-            for (Method m : inside.getDeclaredMethods()) {
-                must(!openNames.contains(m.getName()), inside.getName() + "." + m.getName() + " has a name of its own");
+        for (Class<?> c : allClasses()) {
+            for (Method m : c.getDeclaredMethods()) {
+                must(!Modifier.isPrivate(m.getModifiers()) || !openNames.contains(m.getName()),
+                    c.getName() + "." + m.getName() + " has a name of its own");
                 must(m.getParameterCount() <= 7, m.getName() + " takes at most seven parameters");
             }
         }
-        for (Method m : BilletBars.class.getDeclaredMethods()) {
-            must(!Modifier.isPrivate(m.getModifiers()) || !openNames.contains(m.getName()), m.getName() + " has a name of its own");
-        }
+    }
+
+    private static List<Class<?>> allClasses() {
+        List<Class<?>> classes = new ArrayList<>(Arrays.asList(BilletBars.class.getDeclaredClasses()));
+        classes.add(BilletBars.class);
+        return classes;
     }
 
     private static void testFieldsAndClasses() {
@@ -76,11 +80,10 @@ public final class FaceTest {
         must(Modifier.isFinal(BilletBars.class.getModifiers()), "the class is final");
         must(BilletBars.class.getDeclaredConstructors().length == 1
             && BilletBars.class.getConstructors().length == 1, "there is one constructor, and it is public");
-        List<Class<?>> classes = new ArrayList<>(Arrays.asList(BilletBars.class.getDeclaredClasses()));
-        must(classes.size() < 12, "there are at most twelve classes");
-        classes.add(BilletBars.class);
-        for (Class<?> c : classes) {
-            must(c == BilletBars.class || Modifier.isStatic(c.getModifiers()), c.getName() + " is static");
+        must(allClasses().size() <= 12, "there are at most twelve classes");
+        for (Class<?> c : allClasses()) {
+            must(c == BilletBars.class || Modifier.isStatic(c.getModifiers()) && !Modifier.isPublic(c.getModifiers())
+                && !Modifier.isProtected(c.getModifiers()), c.getName() + " is static, and private or package-visible");
             int fields = 0;
             for (Field f : c.getDeclaredFields()) {
                 must(!Modifier.isStatic(f.getModifiers()) || Modifier.isFinal(f.getModifiers()), f.getName() + " is final");
@@ -92,20 +95,26 @@ public final class FaceTest {
 
     private static void testSource() throws IOException {
         String source = Files.readString(Path.of("src/main/java/BilletBars.java"));
-        String code = source.replaceAll("(?s)/\\*.*?\\*/", " ").replaceAll("//[^\n]*", " ");
-        Matcher barred = Pattern.compile("\\b(throw|throws|try|catch|synchronized|assert|import|package|float|double|"
-            + "equals|hashCode|toString)\\b|->|::|Exact\\b|\"").matcher(code);
-        while (barred.find()) {
-            must(false, "the source is without " + barred.group());
+        mustLack(code(source), "\\b(throw|throws|try|catch|synchronized|assert|package|hashCode)\\b", "rule 6");
+        mustLack(code(source), "->|::", "rule 2");
+        mustLack(code(source), "\\b\\w+Exact\\b|\\b(Math|StrictMath)\\.(random|sqrt|pow)\\b", "rule 4");
+        mustLack(code(source), "\\bSystem\\.(?!arraycopy\\b)\\w+", "rule 4");
+        mustLack(code(source), "\\bArrays\\.(?!(copyOf|copyOfRange|fill)\\b)\\w+", "rule 4");
+        mustLack(code(source), "\\bimport (?!java\\.util\\.(ArrayList|List|Arrays|Iterator);)[^;]*", "rule 4");
+        must(source.chars().allMatch(c -> c < 256), "characters are 0 to 255");
+    }
+
+    /** Without comments, texts and the arrows of a switch, in which a barred word would be none. */
+    private static String code(String source) {
+        return source.replaceAll("(?s)/\\*.*?\\*/", " ").replaceAll("//[^\n]*", " ")
+            .replaceAll("\"(\\\\.|[^\"\\\\])*\"", "text").replaceAll("\\b(case [^;{}>]*|default\\s*)->", "case");
+    }
+
+    private static void mustLack(String code, String barred, String rule) {
+        Matcher found = Pattern.compile(barred).matcher(code);
+        while (found.find()) {
+            must(false, "the source keeps to " + rule + ": it has " + found.group());
         }
-        Set<String> library = new TreeSet<>();
-        Matcher calls = Pattern.compile("\\b(Math|Integer|Long|System|Arrays)\\.(\\w+)").matcher(code);
-        while (calls.find()) {
-            library.add(calls.group());
-        }
-        must(Set.of("Math.max", "Math.min", "Math.floorDiv", "Integer.MAX_VALUE", "Integer.MIN_VALUE",
-            "System.arraycopy").containsAll(library), "the library is what LANGUAGE.md lists: " + library);
-        must(source.chars().allMatch(c -> c < 128), "the source is plain text");
     }
 
     public static void main(String[] args) throws IOException {

@@ -6,7 +6,8 @@ import java.util.Random;
 // Runs of calls drawn from fixed seeds, each answer compared with that of a plain second model.
 public final class ModelTest {
     private static final int RUNS = 1200;
-    private static final int CALLS = 512;
+    /** With those that a run begins with and the digests between, these stay below 512. */
+    private static final int CALLS = 440;
     private static final int NONE = -1;
     private static final int BAD = -2;
     private static final int NOT = -3;
@@ -751,7 +752,7 @@ public final class ModelTest {
         Model m = new Model();
         begin(random, x, m);
         int wildness = seed % 3 == 0 ? 0 : seed % 3 == 1 ? 3 : 30;
-        for (int n = 0; n < CALLS - 60; n++) {
+        for (int n = 0; n < CALLS; n++) {
             int k = drawCall(random);
             int[] a = drawArguments(random, k, wildness);
             boolean yes = random.nextBoolean();
@@ -771,6 +772,7 @@ public final class ModelTest {
     }
 
     public static void main(String[] args) {
+        Deadline.set(600);
         int wrong = 0;
         for (int seed = 0; seed < RUNS; seed++) {
             wrong += agrees(seed) ? 0 : 1;
