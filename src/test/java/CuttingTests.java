@@ -210,6 +210,19 @@ final class CuttingTests extends Answers {
 
     static void promise17_stock_fullChangesNothing() {
         dueUnchanged("stock(200)", Made::crowded, x -> x.stock(200), FULL);
+        dueUnchanged("stock(1200)", Made::crowded, x -> x.stock(1200), FULL);
+    }
+
+    static void promise17_stock_fullLeavesEachOfTheSix() {
+        for (int place = 0; place < 6; place++) {
+            int[] lengths = {290, 290, 290, 290, 290, 290};
+            lengths[place] = 210;
+            BilletBars x = stocked(of(2000, 1), lengths);
+            due("stock(200)", x.stock(200), FULL);
+            due("best(0, false), 210 at " + place, x.best(0, false), 210);
+            due("stock(1200)", x.stock(1200), FULL);
+            due("best(0, false), 210 at " + place, x.best(0, false), 210);
+        }
     }
 
     // ---- promise 18: best

@@ -193,6 +193,9 @@ final class JobsTests extends Answers {
         // 0, 1, 2 ends at 7, none late; 0, 2, 1 ends at 5, but 1 is late by 1
         duePlan(planning(0, 1, 1, 1, 1, 4, 0, 1, 1000), 0, 1, 2);
         duePlan(planning(0, 1, 1, 1, 1, 5, 0, 1, 1000), 0, 2, 1);
+        // the same with the orders the other way round: the one that ends first has the lesser job first
+        duePlan(planning(0, 1, 1, 0, 1, 1000, 1, 1, 4), 0, 2, 1);
+        duePlan(planning(0, 1, 1, 0, 1, 1000, 1, 1, 5), 0, 1, 2);
     }
 
     static void promise22_planned_ofLikeLateHasTheLeastEnd() {

@@ -45,6 +45,7 @@ final class SheetsTests extends Answers {
         dueRow("get(" + s + ", 2, i)", i -> x.get(s, 2, i), want);
     }
 
+    /** count(6) after a call, which is made as it is handed over. */
     private static int findingAfter(BilletBars x, int answer) {
         return x.count(6);
     }
