@@ -772,7 +772,7 @@ public final class ModelTest {
     }
 
     public static void main(String[] args) {
-        Deadline.set(600);
+        Deadline.set(300);
         int wrong = 0;
         for (int seed = 0; seed < RUNS; seed++) {
             wrong += agrees(seed) ? 0 : 1;

@@ -58,7 +58,7 @@ public final class PromisesTest {
     }
 
     public static void main(String[] args) {
-        Deadline.set(300);
+        Deadline.set(120);
         List<Method> tests = tests();
         int passed = 0;
         for (Method test : tests) {
